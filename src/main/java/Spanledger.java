@@ -427,7 +427,7 @@ public final class Spanledger {
     }
 
     private Span entryAt(int entry) {
-        if (entry < 0 || entry >= entryCount || entry >= entries.length) {
+        if (entry < 0 || entry >= entryCount) {
             throw new IndexOutOfBoundsException("no such entry");
         }
         return entries[entry];
@@ -458,8 +458,8 @@ public final class Spanledger {
         return amount;
     }
 
-    // An AMOUNT that does not go into a long as seconds is told as one beyond FAR_SECONDS or
-    // close below: no SPAN FITS that is longer by the one or by the other.
+    // The count of whole units is bounded, so that the seconds go into a long. What the bound cuts off
+    // does not matter: no SPAN that FITS still FITS when it is longer by so much.
     private static long wholeSeconds(long count, int unit) {
         switch (unit) {
             case DAYS:
