@@ -5,15 +5,12 @@ public final class AmountsTest {
     private static final Class<IndexOutOfBoundsException> INDEX = IndexOutOfBoundsException.class;
     private static final Class<IllegalArgumentException> ARGUMENT = IllegalArgumentException.class;
 
-    private static final BigInteger SECOND = BigInteger.valueOf(1_000_000_000L);
-    private static final BigInteger MOST_SECONDS = BigInteger.valueOf(4_000_000_000_000_000_000L);
-
     /** What an object starts from: ZERO, the greatest SPAN, the least, and some between. */
     private static final BigInteger[] STARTS = {
         BigInteger.ZERO,
-        MOST_SECONDS.multiply(SECOND).add(SECOND).subtract(BigInteger.ONE),
-        MOST_SECONDS.multiply(SECOND),
-        MOST_SECONDS.multiply(SECOND).negate(),
+        Put.MOST,
+        BigInteger.valueOf(Put.MOST_SECONDS).multiply(Put.SECOND),
+        Put.LEAST,
         BigInteger.ONE.negate(),
         BigInteger.valueOf(999_999_999L),
         BigInteger.valueOf(-86_400_123_456_789L),
@@ -135,12 +132,12 @@ public final class AmountsTest {
     /** One call on a SPAN that is put to a start; what comes out is null if a and k are no AMOUNT. */
     private static void look(String told, Call call, BigInteger start, int a, int k, BigInteger result) {
         Spanledger x = new Spanledger();
-        put(x, 3, start);
+        Put.span(x, 3, start);
         Object want;
         BigInteger then = start;
         if (result == null) {
             want = ARGUMENT;
-        } else if (!fits(result)) {
+        } else if (!Put.fits(result)) {
             want = Due.REFUSED;
         } else {
             want = result.signum();
@@ -153,33 +150,9 @@ public final class AmountsTest {
             got = e.getClass();
         }
         due.answer(told, got, want);
-        due.answer(told + ": text", x.text(3), textOf(then));
+        due.answer(told + ": text", x.text(3), Put.textOf(then));
         due.answer(told + ": refusals", x.house(1), want.equals(Due.REFUSED) ? 1 : 0);
         due.answer(told + ": the others", x.twins() >= 10, true);
-    }
-
-    private static void put(Spanledger x, int at, BigInteger nanos) {
-        BigInteger seconds = secondsOf(nanos);
-        BigInteger[] high = seconds.divideAndRemainder(BigInteger.valueOf(1_000_000_000L));
-        if (seconds.abs().equals(MOST_SECONDS)) {
-            x.seconds(at, 4 * seconds.signum(), 18);
-        } else {
-            x.seconds(at, high[0].intValueExact(), 9);
-            x.plusSeconds(at, high[1].intValueExact(), 0);
-        }
-        x.plusNanos(at, nanos.mod(SECOND).intValueExact(), 0);
-    }
-
-    private static BigInteger secondsOf(BigInteger nanos) {
-        return nanos.subtract(nanos.mod(SECOND)).divide(SECOND);
-    }
-
-    private static boolean fits(BigInteger nanos) {
-        return secondsOf(nanos).abs().compareTo(MOST_SECONDS) <= 0;
-    }
-
-    private static String textOf(BigInteger nanos) {
-        return secondsOf(nanos) + "." + nanos.mod(SECOND);
     }
 
     private static void wrongArguments(String told, Call call) {
@@ -203,7 +176,7 @@ public final class AmountsTest {
             due.answer(unit.name + " made at " + at, unit.make.on(x, at, 3, 0), 1);
             due.answer("plus" + unit.name + " at " + at, unit.plus.on(x, at, 2, 0), 1);
             due.answer("minus" + unit.name + " at " + at, unit.minus.on(x, at, 9, 0), -1);
-            due.answer("text", x.text(at), textOf(BigInteger.valueOf(-4 * unit.nanos)));
+            due.answer("text", x.text(at), Put.textOf(BigInteger.valueOf(-4 * unit.nanos)));
             due.answer("only that one", x.house(3), 5);
         }
     }

@@ -83,7 +83,8 @@ public final class AskingTest {
         x.seconds(0, -61, 0);
         due.answer("totals of -61 seconds", totalsOf(x, 0), "0 0 -1 -61 -61000 -61000000000");
         x.secondsAnd(0, 90061, 0, 1999999, 0);
-        due.answer("totals of a day, an hour, a minute and more", totalsOf(x, 0), "1 25 1501 90061 90061001 90061001999999");
+        due.answer("totals of a day, an hour, a minute and more", totalsOf(x, 0),
+                "1 25 1501 90061 90061001 90061001999999");
         x.secondsAnd(0, -90061, 0, -1999999, 0);
         due.answer("totals of that below", totalsOf(x, 0), "-1 -25 -1501 -90062 -90061001 -90061001999999");
         x.seconds(0, -86399, 0);

@@ -29,28 +29,34 @@ final class Due {
 
     void thrown(String call, Class<? extends RuntimeException> kind, Consumer<Spanledger> before,
             Function<Spanledger, Object> act) {
-        Spanledger x = furnished();
-        before.accept(x);
-        String was = stateOf(x);
-        Object outcome;
-        try {
-            outcome = act.apply(x);
-        } catch (RuntimeException e) {
-            outcome = e.getClass();
-        }
-        answer(call, outcome, kind);
-        answer(call + " keeps the state", stateOf(x) + nanosOfMoments(x), was + nanosOfMoments(furnished()));
+        Spanledger x = furnished(before);
+        Spanledger twin = furnished(before);
+        answer(call, outcomeOf(act, x), kind);
+        answer(call + " keeps the digest", x.digest(), twin.digest());
+        answer(call + " keeps the state", stateOf(x) + nanosOfMoments(x), stateOf(twin) + nanosOfMoments(twin));
     }
 
     /** A call tells REFUSED, and changes nothing but how often that was told. */
     void refused(String call, Consumer<Spanledger> before, Function<Spanledger, Object> act) {
-        Spanledger x = furnished();
-        before.accept(x);
-        String was = stateBesideRefusals(x);
-        int told = x.house(1);
-        answer(call, act.apply(x), REFUSED);
-        answer(call + " is counted", x.house(1), told + 1);
-        answer(call + " keeps the state", stateBesideRefusals(x), was);
+        Spanledger x = furnished(before);
+        Spanledger twin = furnished(before);
+        answer(call, outcomeOf(act, x), REFUSED);
+        answer(call + " is counted", x.house(1), twin.house(1) + 1);
+        answer(call + " keeps the state", stateBesideRefusals(x) + nanosOfMoments(x),
+                stateBesideRefusals(twin) + nanosOfMoments(twin));
+    }
+
+    /** What a call answers, or the class of what it throws. */
+    static Object outcomeOf(Function<Spanledger, Object> act, Spanledger x) {
+        try {
+            return act.apply(x);
+        } catch (RuntimeException e) {
+            return e.getClass();
+        }
+    }
+
+    int looked() {
+        return looked;
     }
 
     /** Ends the test: exit code 1 if an answer was not the one that is due. */
@@ -81,6 +87,12 @@ final class Due {
         return x;
     }
 
+    private static Spanledger furnished(Consumer<Spanledger> before) {
+        Spanledger x = furnished();
+        before.accept(x);
+        return x;
+    }
+
     static String stateOf(Spanledger x) {
         return stateBesideRefusals(x) + " refused " + x.house(1);
     }
@@ -108,6 +120,8 @@ final class Due {
             x.between(5, 0, i);
             nanos.append(' ').append(x.text(5));
         }
-        return nanos.toString();
+        x.moment(3, 0, 0, 0, 0);
+        x.between(5, 3, 0);
+        return nanos.append(' ').append(x.text(5)).toString();
     }
 }
