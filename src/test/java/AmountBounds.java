@@ -116,6 +116,7 @@ final class AmountBounds extends Bounds {
         }
         if (isMade) {
             wrapsAround(member);
+            neverRefused(member);
         } else {
             aroundTheBounds(member);
         }
@@ -183,6 +184,21 @@ final class AmountBounds extends Bounds {
             }
         }
         due.answer(member.name + ": some wrap around", found > 0, member.nanos > SECOND);
+    }
+
+    /** A SPAN of MILLIS or NANOS alone FITS, up to the greatest and down to the least AMOUNT of each k. */
+    private void neverRefused(Member member) {
+        if (member.nanos >= SECOND) {
+            return;
+        }
+        Spanledger x = new Spanledger();
+        for (int k = 0; k <= MOST_POWER; k++) {
+            BigInteger most = MOST_AMOUNT.divide(BigInteger.TEN.pow(k));
+            int last = most.min(BigInteger.valueOf(Integer.MAX_VALUE)).intValueExact();
+            due.answer(member.name + " of the greatest AMOUNT, k " + k, member.call.on(x, 3, last, k), 1);
+            due.answer(member.name + " of the least AMOUNT, k " + k, member.call.on(x, 3, -last, k), -1);
+        }
+        due.answer(member.name + " never told REFUSED", x.house(1), 0);
     }
 
     /** One call on SPAN 3 that is put to a start: what it answers, what the SPAN is then, what else has changed. */

@@ -146,8 +146,21 @@ final class TurnBounds extends Bounds {
                 Put.of(Put.MOST_SECONDS, 999_999_999).abs(0), 1);
         due.answer("of the least, which turned round FITS", Put.of(-Put.MOST_SECONDS, 0).abs(0), 1);
         due.answer("of the least and a nano", Put.of(-Put.MOST_SECONDS, 1).abs(0), 1);
+        neverRefused();
         says(ABS, NO_SPAN);
         numbersFromZero("abs", SPANS, INDEX, Spanledger::abs);
+    }
+
+    /** Of the least SPAN that FITS the REST is 0, so that turned round it FITS too. */
+    private void neverRefused() {
+        Spanledger x = new Spanledger();
+        for (int rest : new int[] {0, 1, 999_999_998, 999_999_999}) {
+            for (long seconds : new long[] {-Put.MOST_SECONDS, 1 - Put.MOST_SECONDS, -1, 0, Put.MOST_SECONDS}) {
+                Put.span(x, 0, seconds, rest);
+                due.answer("abs of " + x.text(0), x.abs(0), seconds == 0 && rest == 0 ? 0 : 1);
+            }
+        }
+        due.answer("abs never told REFUSED", x.house(1), 0);
     }
 
     private void moment() {
